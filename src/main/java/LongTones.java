@@ -809,13 +809,12 @@ public final class LongTones {
             size = latest;
         }
 
+        /** The oldest state goes to the end of the row, to be written over there. */
         private void forgetOldest() {
-            State oldest = states.length > 0 ? states[0] : null;
             for (int place = 1; place < states.length; place++) {
+                State older = states[place - 1];
                 states[place - 1] = states[place];
-            }
-            if (states.length > 0) {
-                states[states.length - 1] = oldest;
+                states[place] = older;
             }
             size--;
         }

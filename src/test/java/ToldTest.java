@@ -14,6 +14,7 @@ public final class ToldTest {
         silence();
         breathsThatWouldDo();
         counts();
+        afterShorterScores();
         CHECK.end();
     }
 
@@ -110,6 +111,19 @@ public final class ToldTest {
         for (int what = 0; what < 8; what++) {
             CHECK.due("singer(0, " + what + ")", x.singer(0, what), due[what]);
         }
+        LongTones y = Check.withScore("o5-1-1.");
+        y.addSinger(6, 9);
+        y.mark(0, 1, true);
+        CHECK.due("least left behind the first beat", y.singer(0, 6), 1);
+        y.mark(0, 1, false);
+        CHECK.due("least left behind the second beat", y.singer(0, 6), 0);
+        CHECK.due("a row from the first beat on", y.singer(0, 7), 2);
+        y.setSort(0, 0);
+        CHECK.due("a row behind a rest", y.singer(0, 7), 2);
+        y.setSort(1, 0);
+        CHECK.due("a row of one", y.singer(0, 7), 1);
+        y.setSort(2, 0);
+        CHECK.due("no row", y.singer(0, 7), 0);
         x.setPresent(0, false);
         int[] absent = {7, 3, 0, 1, 0, 0, 7, 0};
         for (int what = 0; what < 8; what++) {
@@ -259,5 +273,38 @@ public final class ToldTest {
         for (int what = 0; what < due.length; what++) {
             CHECK.due("count(" + what + ")", x.count(what), due[what]);
         }
+    }
+
+    /** What an earlier, longer score or an earlier course has left must not be told. */
+    private static void afterShorterScores() {
+        LongTones x = Check.withScore("o5-5-5-5o5");
+        x.addSinger(4, 1);
+        CHECK.due("gasps", x.count(9), 5);
+        Check.readText(x, ".o1");
+        CHECK.due("gasps then", x.count(9), 0);
+        CHECK.due("faults then", x.count(7), 0);
+        CHECK.due("rests", x.count(1), 1);
+        CHECK.due("syllables", x.count(2), 1);
+        CHECK.due("longest", x.count(13), 1);
+        CHECK.due("gasps of the beat", x.beat(1, 6), 0);
+        CHECK.due("sung", x.singer(0, 4), 1);
+        CHECK.due("silent without", x.silentWithout(0), 1);
+        CHECK.due("no fault", x.fault(0, 0), LongTones.NONE);
+        x.setPresent(0, false);
+        CHECK.due("one silence", x.fault(0, 1), 1);
+        CHECK.due("and no more", x.fault(1, 1), LongTones.NONE);
+        Check.readText(x, "-o");
+        CHECK.due("tones ahead of all beginnings", x.count(2), 2);
+        x.setPresent(0, true);
+        x.addSinger(4, 1);
+        Check.readText(x, "o5-5-5");
+        Check.readText(x, "o2");
+        x.setReserve(8);
+        CHECK.due("nothing is summed behind the end", x.make(), 0);
+        Check.readText(x, ".-x3");
+        CHECK.due("a rest ahead", x.count(1), 1);
+        Check.readText(x, "-x3.");
+        CHECK.due("a tone as the first beat", x.beat(0, 2), 0);
+        CHECK.due("its syllable", x.count(13), 3);
     }
 }
