@@ -1,11 +1,40 @@
+import java.lang.reflect.Method;
+import java.lang.reflect.Modifier;
+import java.util.Arrays;
+import java.util.Comparator;
+
 /** What the tests share: comparing an answer with the due one, and making scores from texts. */
 final class Check {
-    private final String name;
+    private final String className;
+    private String name;
     private int calls = 0;
     private int wrong = 0;
 
-    Check(String name) {
-        this.name = name;
+    Check(String className) {
+        this.className = className;
+        name = className;
+    }
+
+    /** Runs every test of a class: its static methods without arguments, so that none is forgotten. */
+    void runAll(Class<?> tests) throws ReflectiveOperationException {
+        Method[] methods = tests.getDeclaredMethods();
+        Arrays.sort(methods, Comparator.comparing(Method::getName));
+        for (Method method : methods) {
+            if (isTest(method)) {
+                name = className + "." + method.getName();
+                int before = calls;
+                method.invoke(null);
+                due("the test asks something", calls > before ? 1 : 0, 1);
+            }
+        }
+        name = className;
+        end();
+    }
+
+    static boolean isTest(Method method) {
+        int modifiers = method.getModifiers();
+        return method.getParameterCount() == 0 && method.getReturnType() == void.class
+            && Modifier.isStatic(modifiers) && !Modifier.isPrivate(modifiers) && !method.isSynthetic();
     }
 
     void due(String call, int got, int want) {
@@ -42,6 +71,32 @@ final class Check {
         LongTones choir = new LongTones();
         readText(choir, text);
         return choir;
+    }
+
+    /** A new object with the score of a text, and singers of the breaths and recoveries that follow. */
+    static LongTones withChoir(String text, int... breathsAndRecoveries) {
+        LongTones choir = withScore(text);
+        for (int i = 0; i + 1 < breathsAndRecoveries.length; i += 2) {
+            choir.addSinger(breathsAndRecoveries[i], breathsAndRecoveries[i + 1]);
+        }
+        return choir;
+    }
+
+    /** A new object with the score of a text, and some singers who are all alike. */
+    static LongTones withEqualSingers(String text, int number, int breath, int recovery) {
+        LongTones choir = withScore(text);
+        for (int singer = 0; singer < number; singer++) {
+            choir.addSinger(breath, recovery);
+        }
+        return choir;
+    }
+
+    static String times(String text, int times) {
+        StringBuilder all = new StringBuilder();
+        for (int i = 0; i < times; i++) {
+            all.append(text);
+        }
+        return all.toString();
     }
 
     /** What a singer does in the beats from 0 on, a digit a beat. */

@@ -8,7 +8,6 @@ public final class HistoryTest {
         wholeStates();
         keeping();
         restoring();
-        singersAndSolosComeBack();
         CHECK.end();
     }
 
@@ -138,29 +137,5 @@ public final class HistoryTest {
         LongTones empty = new LongTones();
         empty.keep(0);
         CHECK.due("an empty score", empty.restore(0), 0);
-    }
-
-    private static void singersAndSolosComeBack() {
-        LongTones x = Check.withScore("ox9");
-        x.keep(1);
-        x.addSinger(9, 3);
-        x.addSinger(9, 3);
-        x.addSolo(1, 4, 6);
-        x.keep(0);
-        x.restore(1);
-        x.addSinger(33, 10);
-        x.addSolo(0, 2, 3);
-        x.restore(0);
-        int[] due = {1, 4, 6};
-        for (int what = 0; what < 3; what++) {
-            CHECK.due("restore: solo " + what, x.solo(0, what), due[what]);
-        }
-        CHECK.due("restore: breath", x.singer(0, 0), 9);
-        CHECK.due("restore: recovery", x.singer(0, 1), 3);
-        x.undo();
-        CHECK.due("undo: solo", x.solo(0, 0) * 100 + x.solo(0, 1) * 10 + x.solo(0, 2), 23);
-        CHECK.due("undo: breath", x.singer(0, 0), 33);
-        CHECK.due("undo: recovery", x.singer(0, 1), 10);
-        CHECK.due("undo: singers", x.count(3), 1);
     }
 }

@@ -3,6 +3,8 @@ public final class ModelTest {
     private static final Check CHECK = new Check("ModelTest");
     private static final int RUNS = 600;
     private static final int CALLS = 512;
+    /** An act may be a whole text: twelve items of five characters, and two calls more. */
+    private static final int MOST_CALLS_OF_AN_ACT = 62;
     private static final int[] WILD = {Integer.MIN_VALUE, -1000, -2, -1, 12, 13, 59, 60, 95, 96, 97,
         1000, Integer.MAX_VALUE - 1, Integer.MAX_VALUE};
 
@@ -31,7 +33,7 @@ public final class ModelTest {
             addSinger();
         }
         while (call < CALLS) {
-            if (below(3) > 0) {
+            if (below(3) > 0 || call > CALLS - MOST_CALLS_OF_AN_ACT) {
                 tell();
             } else {
                 act();
